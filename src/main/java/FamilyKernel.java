@@ -29,6 +29,9 @@ public final class FamilyKernel {
     /** Far above the turns that the bounds on SIZE, WORK and the TAPE leave to any loop. */
     private static final int MOST_TURNS = 1 << 24;
 
+    /** Far above what the bounds leave to any row. */
+    private static final int MOST_CELLS = 1 << 24;
+
     private static final int NONE = -1;
 
     private static final int FAULT_SIGN = 1;
@@ -194,13 +197,13 @@ public final class FamilyKernel {
     private int latestWork;
 
     public FamilyKernel() {
-        tape = new Row(256);
-        shown = new Row(256);
+        tape = new Row(256, MOST_BYTES);
+        shown = new Row(256, MOST_BYTES);
         meter = new Meter();
         terms = new Terms(meter);
         environment = new Environment();
         lexer = new Lexer(tape);
-        parser = new Parser(lexer, meter, terms, environment);
+        parser = new Parser(tape, lexer, meter, terms, environment);
         frames = new Frames();
         reducer = new Reducer(frames, meter, terms, environment);
         typer = new Typer(frames, meter, terms, environment);
@@ -411,11 +414,14 @@ public final class FamilyKernel {
 
     /** A row of numbers that grows, so that an object that does little holds little. */
     private static final class Row {
+        private final int most;
         private int[] cells;
         private int length;
 
-        Row(int room) {
+        /** What comes behind the most that it may hold is left out. */
+        Row(int room, int most) {
             cells = new int[room > 0 ? room : 1];
+            this.most = most;
         }
 
         int size() {
@@ -433,6 +439,9 @@ public final class FamilyKernel {
         }
 
         void push(int value) {
+            if (length >= most) {
+                return;
+            }
             if (length == cells.length) {
                 cells = Arrays.copyOf(cells, 2 * length);
             }
@@ -509,7 +518,7 @@ public final class FamilyKernel {
      * counted from the innermost binder outwards; a FREE variable is named by its level.
      */
     private static final class Terms {
-        private static final int FIRST_ROOM = 1024;
+        private static final int FIRST_ROOM = 256;
         private static final int MOST_ROOM = 1 << 19;
         private static final int SIZE_AT = 4;
         private static final int DEPTH_AT = 17;
@@ -531,9 +540,9 @@ public final class FamilyKernel {
 
         Terms(Meter meter) {
             this.meter = meter;
-            todo = new Row(64);
-            offsets = new Row(64);
-            built = new Row(64);
+            todo = new Row(64, MOST_CELLS);
+            offsets = new Row(64, MOST_CELLS);
+            built = new Row(64, MOST_CELLS);
             infos = new long[FIRST_ROOM];
             lefts = new int[FIRST_ROOM];
             rights = new int[FIRST_ROOM];
@@ -609,16 +618,21 @@ public final class FamilyKernel {
                 }
                 link = links[term];
             }
-            int size = kind < APP ? 1 : size(left) + size(right) + own(kind);
-            int depth = kind < APP ? 1 : depthOver(kind, depth(left), depth(right));
-            if (size > MOST_SIZE || depth > MOST_DEPTH || length >= MOST_ROOM) {
-                meter.fail(TOO_GREAT);
-            }
+            int size = 1;
+            int depth = 1;
             int loose = kind == VAR ? left + 1 : 0;
             int free = kind == FREE ? left + 1 : 0;
             if (kind >= APP) {
+                int own = kind == PAIR ? 0 : 1;
+                size = size(left) + size(right) + own;
+                depth = kind == APP
+                        ? Math.max(depth(left), depth(right) + 1)
+                        : Math.max(depth(left), depth(right)) + own;
                 loose = Math.max(loose(left), loose(right) - binds(kind));
                 free = Math.max(free(left), free(right));
+            }
+            if (size > MOST_SIZE || depth > MOST_DEPTH || length >= MOST_ROOM) {
+                meter.fail(TOO_GREAT);
             }
             if (length == infos.length) {
                 grow();
@@ -638,14 +652,6 @@ public final class FamilyKernel {
             int mixed = kind * 0x27D4EB2F + left * 0x9E3779B1 + right * 0x85EBCA6B;
             mixed ^= mixed >>> 15;
             return mixed & (heads.length - 1);
-        }
-
-        private static int own(int kind) {
-            return kind == PAIR ? 0 : 1;
-        }
-
-        private static int depthOver(int kind, int left, int right) {
-            return kind == APP ? Math.max(left, right + 1) : Math.max(left, right) + own(kind);
         }
 
         private static int binds(int kind) {
@@ -769,8 +775,8 @@ public final class FamilyKernel {
         private int sizes;
 
         Environment() {
-            facts = new Row(8 * FACTS);
-            names = new Row(64);
+            facts = new Row(8 * FACTS, MOST_CELLS);
+            names = new Row(64, MOST_CELLS);
         }
 
         int length() {
@@ -800,9 +806,9 @@ public final class FamilyKernel {
 
         int add(int kind, Lexer lexer) {
             int constant = length();
-            int name = Lexer.word(names.size(), lexer.wordLength());
-            for (int i = 0; i < lexer.wordLength(); i++) {
-                names.push(lexer.byteAt(i));
+            int name = Lexer.named(names.size(), lexer.length());
+            for (int i = 0; i < lexer.length(); i++) {
+                names.push(lexer.sign(i));
             }
             for (int what = 0; what < FACTS; what++) {
                 facts.push(0);
@@ -816,7 +822,7 @@ public final class FamilyKernel {
 
         void cut(int constants) {
             if (constants < length()) {
-                names.cut(Lexer.wordStart(fact(constants, NAME)));
+                names.cut(Lexer.startOf(fact(constants, NAME)));
                 facts.cut(constants * FACTS);
             }
         }
@@ -832,11 +838,11 @@ public final class FamilyKernel {
         }
 
         int nameLength(int constant) {
-            return Lexer.wordSize(fact(constant, NAME));
+            return Lexer.lengthOf(fact(constant, NAME));
         }
 
         int nameByte(int constant, int i) {
-            return names.at(Lexer.wordStart(fact(constant, NAME)) + i);
+            return names.at(Lexer.startOf(fact(constant, NAME)) + i);
         }
 
         boolean allows(int family, int sort) {
@@ -844,26 +850,44 @@ public final class FamilyKernel {
         }
     }
 
-    /** The TEXT as tokens: the one that stands at the place is known, but not yet judged. */
+    /** The TEXT as tokens; a token that is none is told apart, but judged only by the parser. */
     private static final class Lexer {
         private static final int MOST_SIGNS = 31;
         private static final int MOST_DIGITS = 4;
-        /** Room for the signs of a word in a number that holds its start, too. */
-        private static final int WORD_STEP = 32;
+        /** A token is its start, its length (of a word or number) and its kind in one number. */
+        private static final int STEP = 32;
 
         private final Row text;
+        private final Row tokens;
         private int place;
-        private int start;
+        private int at;
         private int kind;
-        private int value;
+        private int start;
+        private int length;
 
         Lexer(Row text) {
             this.text = text;
+            tokens = new Row(64, MOST_CELLS);
         }
 
         void begin() {
+            tokens.cut(0);
             place = 0;
+            kind = T_BAD;
+            for (int turn = 0; turn <= MOST_BYTES && kind != T_END; turn++) {
+                scan();
+                tokens.push(named(start, length) * STEP + kind);
+            }
+            at = -1;
             advance();
+        }
+
+        void advance() {
+            at++;
+            int token = tokens.at(at);
+            kind = token % STEP;
+            length = token / STEP % STEP;
+            start = token / STEP / STEP;
         }
 
         int kind() {
@@ -874,63 +898,61 @@ public final class FamilyKernel {
             return start;
         }
 
-        int value() {
-            return value;
+        int length() {
+            return length;
         }
 
-        static int word(int start, int length) {
-            return start * WORD_STEP + length;
+        /** Where a word stands and how long it is, in one number. */
+        static int named(int start, int length) {
+            return start * STEP + length;
         }
 
-        static int wordStart(int word) {
-            return word / WORD_STEP;
+        static int startOf(int word) {
+            return word / STEP;
         }
 
-        static int wordSize(int word) {
-            return word % WORD_STEP;
+        static int lengthOf(int word) {
+            return word % STEP;
         }
 
         int word() {
-            return word(start, place - start);
+            return named(start, length);
         }
 
-        int wordLength() {
-            return place - start;
-        }
-
-        int byteAt(int i) {
+        int sign(int i) {
             return text.at(start + i);
         }
 
-        boolean standsAt(Row row, int word) {
-            int length = wordSize(word);
-            if (length != wordLength()) {
-                return false;
-            }
+        int value() {
+            int value = 0;
             for (int i = 0; i < length; i++) {
-                if (row.at(wordStart(word) + i) != byteAt(i)) {
-                    return false;
-                }
+                value = 10 * value + sign(i) - '0';
             }
-            return true;
+            return value;
         }
 
-        boolean isBoundAs(int word) {
-            return standsAt(text, word);
+        /** Whether the word in that row is the one that stands here. */
+        boolean standsAt(Row row, int word) {
+            boolean same = lengthOf(word) == length;
+            for (int i = 0; same && i < length; i++) {
+                same = row.at(startOf(word) + i) == text.at(start + i);
+            }
+            return same;
         }
 
-        void advance() {
+        private void scan() {
             skip();
             start = place;
+            length = 0;
             int sign = text.at(place);
             if (place >= text.size()) {
                 kind = T_END;
             } else if (isLetter(sign)) {
-                takeWord();
+                scanWord();
             } else if (isDigit(sign)) {
-                takeNumber();
+                scanNumber();
             } else {
-                takeSign(sign, text.at(place + 1));
+                scanSign(sign, text.at(place + 1));
             }
         }
 
@@ -956,30 +978,29 @@ public final class FamilyKernel {
             return sign >= '0' && sign <= '9';
         }
 
-        private void takeWord() {
-            while (place < text.size() && isInWord(text.at(place))) {
-                place++;
-            }
-            kind = wordLength() > MOST_SIGNS ? T_BAD : wordKind();
-        }
-
         private static boolean isInWord(int sign) {
             return isLetter(sign) || isDigit(sign) || sign == '_' || sign == '\'';
         }
 
-        private void takeNumber() {
-            value = 0;
-            kind = T_NUMBER;
-            while (place < text.size() && isDigit(text.at(place))) {
-                if (wordLength() == MOST_DIGITS) {
-                    kind = T_BAD;
-                }
-                value = kind == T_BAD ? 0 : 10 * value + text.at(place) - '0';
+        private void scanWord() {
+            while (place < text.size() && isInWord(text.at(place))) {
                 place++;
             }
+            boolean fits = place - start <= MOST_SIGNS;
+            length = fits ? place - start : 0;
+            kind = fits ? wordKind() : T_BAD;
         }
 
-        private void takeSign(int sign, int next) {
+        private void scanNumber() {
+            while (place < text.size() && isDigit(text.at(place))) {
+                place++;
+            }
+            boolean fits = place - start <= MOST_DIGITS;
+            length = fits ? place - start : 0;
+            kind = fits ? T_NUMBER : T_BAD;
+        }
+
+        private void scanSign(int sign, int next) {
             boolean twice = sign == ':' && next == '=' || sign == '=' && next == '>'
                     || sign == '-' && next == '>';
             place += twice ? 2 : 1;
@@ -999,7 +1020,7 @@ public final class FamilyKernel {
         }
 
         private int wordKind() {
-            switch (byteAt(0)) {
+            switch (text.at(start)) {
                 case 'a': return reads("axiom") ? T_AXIOM : T_NAME;
                 case 'd': return reads("def") ? T_DEF : T_NAME;
                 case 't': return reads("theorem") ? T_THEOREM : T_NAME;
@@ -1024,15 +1045,11 @@ public final class FamilyKernel {
         }
 
         private boolean reads(String word) {
-            if (word.length() != wordLength()) {
-                return false;
+            boolean same = word.length() == length;
+            for (int i = 0; same && i < length; i++) {
+                same = text.at(start + i) == word.charAt(i);
             }
-            for (int i = 0; i < word.length(); i++) {
-                if (byteAt(i) != word.charAt(i)) {
-                    return false;
-                }
-            }
-            return true;
+            return same;
         }
     }
 
@@ -1044,6 +1061,7 @@ public final class FamilyKernel {
         /** The binder of the BINDERS of inductive, which wait for no body. */
         private static final int NO_BINDER = 0;
 
+        private final Row text;
         private final Lexer lexer;
         private final Meter meter;
         private final Terms terms;
@@ -1066,15 +1084,16 @@ public final class FamilyKernel {
         private int value;
         private int nodes;
 
-        Parser(Lexer lexer, Meter meter, Terms terms, Environment environment) {
+        Parser(Row text, Lexer lexer, Meter meter, Terms terms, Environment environment) {
+            this.text = text;
             this.lexer = lexer;
             this.meter = meter;
             this.terms = terms;
             this.environment = environment;
-            open = new Row(16 * WIDTH);
-            scope = new Row(32);
-            pending = new Row(32);
-            binders = new Row(32);
+            open = new Row(16 * WIDTH, MOST_CELLS);
+            scope = new Row(32, MOST_CELLS);
+            pending = new Row(32, MOST_CELLS);
+            binders = new Row(32, MOST_CELLS);
         }
 
         int task() {
@@ -1302,7 +1321,7 @@ public final class FamilyKernel {
 
         private int boundAt() {
             int at = scope.size() - 1;
-            while (at >= 0 && (scope.at(at) == NOBODY || !lexer.isBoundAs(scope.at(at)))) {
+            while (at >= 0 && (scope.at(at) == NOBODY || !lexer.standsAt(text, scope.at(at)))) {
                 at--;
             }
             return at;
@@ -1338,7 +1357,10 @@ public final class FamilyKernel {
                 lexer.advance();
                 return 0;
             }
-            expect(T_TYPE);
+            if (lexer.kind() != T_TYPE) {
+                refuse();
+            }
+            lexer.advance();
             if (lexer.kind() != T_NUMBER) {
                 refuse();
             }
@@ -1529,8 +1551,8 @@ public final class FamilyKernel {
         private int result;
 
         Frames() {
-            cells = new Row(32 * WIDTH);
-            types = new Row(32);
+            cells = new Row(32 * WIDTH, MOST_CELLS);
+            types = new Row(32, MOST_CELLS);
         }
 
         void begin(int op, int first, int second) {
@@ -1607,7 +1629,7 @@ public final class FamilyKernel {
             this.meter = meter;
             this.terms = terms;
             this.environment = environment;
-            given = new Row(32);
+            given = new Row(32, MOST_CELLS);
         }
 
         /** FIRST is the TERM, DEEP how many MAJORS it is within. */
@@ -2055,11 +2077,11 @@ public final class FamilyKernel {
             this.terms = terms;
             this.environment = environment;
             this.parser = parser;
-            sorts = new Row(16);
-            domains = new Row(16);
-            hypotheses = new Row(16);
-            within = new Row(16);
-            minors = new Row(16);
+            sorts = new Row(16, MOST_CELLS);
+            domains = new Row(16, MOST_CELLS);
+            hypotheses = new Row(16, MOST_CELLS);
+            within = new Row(16, MOST_CELLS);
+            minors = new Row(16, MOST_CELLS);
         }
 
         void family() {
@@ -2250,7 +2272,8 @@ public final class FamilyKernel {
         private int applied(int head, int firstLevel, int number, int depth) {
             int made = head;
             for (int i = 0; i < number; i++) {
-                made = terms.make(APP, made, variable(firstLevel + i, depth));
+                int variable = terms.make(VAR, depth - 1 - firstLevel - i, 0);
+                made = terms.make(APP, made, variable);
             }
             return made;
         }
@@ -2385,7 +2408,7 @@ public final class FamilyKernel {
             this.shown = shown;
             this.terms = terms;
             this.environment = environment;
-            todo = new Row(32 * WIDTH);
+            todo = new Row(32 * WIDTH, MOST_CELLS);
         }
 
         void printName(int constant) {
@@ -2405,7 +2428,7 @@ public final class FamilyKernel {
                 if (item < 0) {
                     piece(item);
                 } else if (needsBrackets(terms.kind(item), position)) {
-                    sign('(');
+                    shown.push('(');
                     later(CLOSING, 0, 0);
                     later(item, depth, ANYWHERE);
                 } else {
@@ -2424,15 +2447,9 @@ public final class FamilyKernel {
             return position == BEHIND && kind >= APP || position == BEFORE && kind >= PI;
         }
 
-        private void sign(int sign) {
-            if (shown.size() < MOST_BYTES) {
-                shown.push(sign);
-            }
-        }
-
         private void text(String text) {
             for (int i = 0; i < text.length(); i++) {
-                sign(text.charAt(i));
+                shown.push(text.charAt(i));
             }
         }
 
@@ -2442,13 +2459,13 @@ public final class FamilyKernel {
                 unit *= 10;
             }
             for (; unit > 0; unit /= 10) {
-                sign('0' + number / unit % 10);
+                shown.push('0' + number / unit % 10);
             }
         }
 
         private void name(int constant) {
             for (int i = 0; i < environment.nameLength(constant); i++) {
-                sign(environment.nameByte(constant, i));
+                shown.push(environment.nameByte(constant, i));
             }
         }
 
@@ -2477,7 +2494,7 @@ public final class FamilyKernel {
             int left = terms.left(term);
             switch (terms.kind(term)) {
                 case VAR:
-                    sign('x');
+                    shown.push('x');
                     number(depth - 1 - left);
                     break;
                 case SORT: sort(left == ANY_SORT ? sort : left); break;
@@ -2485,7 +2502,7 @@ public final class FamilyKernel {
                 case REC:
                     text("rec ");
                     name(left);
-                    sign(' ');
+                    shown.push(' ');
                     sort(terms.right(term));
                     break;
                 case APP:
