@@ -310,6 +310,9 @@ public final class FamilyKernel {
                 default: frames.pop(); break;
             }
         }
+        if (!frames.isEmpty()) {
+            meter.fail(TOO_GREAT);
+        }
     }
 
     /** Keeps what was checked; nodes is how many TERMS there were before the DECLARATION. */
@@ -1169,6 +1172,9 @@ public final class FamilyKernel {
                     default: endMember(); break;
                 }
             }
+            if (state != DONE) {
+                meter.fail(TOO_GREAT);
+            }
             nodes = terms.length();
         }
 
@@ -1989,16 +1995,16 @@ public final class FamilyKernel {
             inferWithin(terms.rewrite(OPEN, terms.right(pair), terms.left(pair)));
         }
 
-        /** The type so far is the answer; THIRD is how many TERMS it is still applied to. */
         void appType() {
-            if (frames.top(Frames.THIRD) == 0) {
-                frames.pop();
-            } else {
-                frames.set(Frames.OP, OP_APP_ARGUMENT);
-                frames.push(OP_WHNF, frames.result(), 0, 0);
-            }
+            askFunction(frames.result());
         }
 
+        private void askFunction(int type) {
+            frames.set(Frames.OP, OP_APP_ARGUMENT);
+            frames.push(OP_WHNF, type, 0, 0);
+        }
+
+        /** SECOND becomes the PI, THIRD is how many TERMS are still to be checked. */
         void appArgument() {
             int type = frames.result();
             if (terms.kind(type) != PI) {
@@ -2012,7 +2018,6 @@ public final class FamilyKernel {
             return terms.fromLast(frames.top(Frames.FIRST), frames.top(Frames.THIRD) - 1);
         }
 
-        /** Only the last type is given, but the frame stays until all are through. */
         void appOpen() {
             int body = terms.right(frames.top(Frames.SECOND));
             int type = terms.rewrite(OPEN, body, nextArgument());
@@ -2021,8 +2026,7 @@ public final class FamilyKernel {
                 frames.give(type);
             } else {
                 frames.set(Frames.THIRD, others);
-                frames.set(Frames.OP, OP_APP_ARGUMENT);
-                frames.push(OP_WHNF, type, 0, 0);
+                askFunction(type);
             }
         }
 
