@@ -144,6 +144,17 @@ public final class BoundsTest {
         BENCH.costs("eval mul " + number(9) + " " + number(9) + ".", 59782);
         BENCH.refuses("eval mul " + number(9) + " " + number(10) + ".", 10, 0);
         Bench.due("work stays", BENCH.kernel().count(2), 59782);
+        BENCH.costs("axiom just : " + chains(90, 90, 90, 90, 90, 63, 75, 74) + ".", 60000);
+        BENCH.refuses("axiom more : " + chains(90, 90, 90, 90, 90, 78, 41, 86) + ".", 10, 0);
+    }
+
+    /** A chain of n arrows costs n * n, one before the others also their SIZE. */
+    private static String chains(int... arrows) {
+        StringBuilder text = new StringBuilder();
+        for (int number : arrows) {
+            text.append("(").append(Bench.repeat("Prop -> ", number)).append("Prop) -> ");
+        }
+        return text.append("Prop").toString();
     }
 
     private static String number(int n) {
@@ -162,6 +173,7 @@ public final class BoundsTest {
         String more = four + " | c : f" + Bench.repeat(" f", 601) + " -> I }";
         BENCH.refuses(just + ".", 5, 0);
         BENCH.refuses(more + ".", 10, 0);
+        BENCH.refuses(four + " | c : let x : f := f in f" + Bench.repeat(" f", 600) + " }.", 10, 0);
         // It is tested behind the last sign.
         BENCH.refuses(more, 1, more.length());
         BENCH.refuses(more + " none", 1, more.length() + 1);
@@ -197,6 +209,10 @@ public final class BoundsTest {
         String half = "(" + Bench.repeat("x ", 31) + ": " + type + ")";
         BENCH.refuses("axiom a : forall " + half + " (x : " + type + ") @", 1, 17 + half.length() + 6 + type.length() + 2);
         BENCH.refuses("axiom a : forall " + half + " " + half + " @", 10, 0);
+        String just = "axiom a : forall (" + Bench.repeat("x ", 2001) + ": Prop -> Prop) ";
+        BENCH.refuses(just + "@", 1, just.length());
+        BENCH.refuses(just + "(x : Prop) @", 1, just.length() + 11);
+        BENCH.refuses(just + "(x y : Prop @", 10, 0);
     }
 
     private static void constants() {
