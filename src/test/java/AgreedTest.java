@@ -6,9 +6,9 @@ import java.util.List;
 import java.util.NoSuchElementException;
 
 /**
- * Runs over many declarations, right and wrong, on which a second checker, written apart from this
- * one and by plain recursion, gave the answers that stand in src/test/data/agreed.txt. A line there
- * begins with what it is: a new object, ? a text, = the answers of read, fault and count, " OUT,
+ * Runs over many declarations, right and wrong, on which a second checker, written in another
+ * language and by plain recursion, gave the answers that stand in src/test/data/agreed.txt. It shares
+ * this one's reading of the document: it guards the workings, not the reading. A line there begins with what it is: a new object, ? a text, = the answers of read, fault and count, " OUT,
  * ! what constant, show and showRec tell of each constant.
  */
 public final class AgreedTest {
