@@ -23,13 +23,22 @@ final class Bench {
         return kernel.read();
     }
 
+    /** What is no whole call comes first, so that a text can fill the tape to its last byte. */
     void feed(String text) {
-        int had = kernel.count(4);
-        for (int i = 0; i < text.length(); i += 20) {
-            kernel.feed(word(text, i), word(text, i + 4), word(text, i + 8), word(text, i + 12),
-                    word(text, i + 16));
+        int first = text.length() % 20;
+        if (first > 0) {
+            int had = kernel.count(4);
+            feedTwenty(text, 0);
+            kernel.end(had + first);
         }
-        kernel.end(had + text.length());
+        for (int i = first; i < text.length(); i += 20) {
+            feedTwenty(text, i);
+        }
+    }
+
+    private void feedTwenty(String text, int from) {
+        kernel.feed(word(text, from), word(text, from + 4), word(text, from + 8), word(text, from + 12),
+                word(text, from + 16));
     }
 
     private static int word(String text, int from) {
@@ -51,16 +60,45 @@ final class Bench {
         due("place of " + text, kernel.fault(1), 0);
     }
 
+    /** So many declarations are accepted, the next one has this fault. */
+    void takes(String text, int declarations, int fault, int place) {
+        due(text, read(text), declarations);
+        due("fault of " + text, kernel.fault(0), fault);
+        due("place of " + text, kernel.fault(1), place);
+    }
+
     void costs(String text, int work) {
         takes(text);
         due("work of " + text, kernel.count(2), work);
     }
 
-    /** The first declaration of the text has this fault. */
+    /** The first declaration of the text has this fault, and changes nothing. */
     void refuses(String text, int fault, int place) {
+        String before = state();
         due(text, read(text), 0);
         due("fault of " + text, kernel.fault(0), fault);
         due("place of " + text, kernel.fault(1), place);
+        due("tape behind " + text, kernel.count(4), 0);
+        due("state behind " + text, state(), before);
+    }
+
+    /** What is behind the text is judged: the text itself keeps the bounds. */
+    void fits(String text) {
+        refuses(text + " @", 1, text.length() + 1);
+    }
+
+    /** The text is TOO GREAT before what is behind it is judged. */
+    void isTooGreat(String text) {
+        refuses(text + " @", 10, 0);
+    }
+
+    /** All but the TAPE and the FAULT. */
+    private String state() {
+        StringBuilder told = new StringBuilder();
+        for (int what = 0; what <= 5; what++) {
+            told.append(what == 4 ? 0 : kernel.count(what)).append(' ');
+        }
+        return told.append(out()).toString();
     }
 
     void refusesAt(String text, int fault, String where) {
@@ -114,6 +152,14 @@ final class Bench {
             got = thrown.getClass().getName();
         }
         due(call, got, due.getName());
+    }
+
+    /** The call throws what is due, and the state, the TAPE and the FAULT stay as they were. */
+    void throwsAndKeeps(String call, Class<? extends RuntimeException> due, Call it) {
+        String before = state() + kernel.count(4) + " " + kernel.fault(0) + " " + kernel.fault(1);
+        throwsIt(call, due, it);
+        String behind = state() + kernel.count(4) + " " + kernel.fault(0) + " " + kernel.fault(1);
+        due("state behind " + call, behind, before);
     }
 
     static String repeat(String text, int times) {
