@@ -16,6 +16,8 @@ public final class FamilyEdgeTest {
         majorPlaces();
         costsOfRecursors();
         typingOfRecursors();
+        rulesWithParameters();
+        rulesWithIndices();
         Bench.finish(FamilyEdgeTest.class);
     }
 
@@ -311,6 +313,12 @@ public final class FamilyEdgeTest {
         BENCH.evaluates(vec + " O (nil nat) O", "S O");
         BENCH.evaluates(vec + " (S O) (cons nat O O (nil nat)) O", "S O");
         BENCH.evaluates("rec one Type 0 (fun (x : one) => one)", "rec one Type 0 (fun (x0 : one) => one)");
+        // What stands before the place of the MAJOR is none, though it is a CONSTRUCTOR.
+        BENCH.evaluates("rec one Type 0 (fun (x : one) => one) it", "rec one Type 0 (fun (x0 : one) => one) it");
+        BENCH.takes("inductive fin : one -> Type 0 := { | fine : forall (x : one), fin x }.");
+        BENCH.evaluates("rec fin Type 0 (fun (x : one) (y : fin x) => one) (fun (x : one) => x) it",
+                "rec fin Type 0 (fun (x0 : one) => fun (x1 : fin x0) => one) (fun (x0 : one) => x0) it");
+        BENCH.evaluates("rec fin Type 0 (fun (x : one) (y : fin x) => one) (fun (x : one) => x) it (fine it)", "it");
         BENCH.evaluates("rec one Type 0 (fun (x : one) => one) it it", "it");
         BENCH.evaluates("rec none Type 0 (fun (x : none) => nat) no", "rec none Type 0 (fun (x0 : none) => nat) no");
         // The MAJOR is opened to find the CONSTRUCTOR, but stays as it was where there is none.
@@ -350,5 +358,42 @@ public final class FamilyEdgeTest {
         BENCH.refuses("eval rec nat Type 0 (fun (x : nat) => nat) O (fun (x y : nat) => x) nat.", 4, 0);
         BENCH.refuses("eval rec nat Type 0 (fun (x : nat) => nat) O (fun (x y : nat) => x) O O.", 5, 0);
         BENCH.refuses("eval rec nat Type 0 nat.", 4, 0);
+    }
+
+    /** The hypotheses of a RULE: LAM xs with the types that the ARGUMENT has, among PARAMETERS, C and ms. */
+    private static void rulesWithParameters() {
+        BENCH.renew();
+        BENCH.takes("axiom A : Type 0. axiom R : A -> A -> Prop. axiom nat : Type 0.", 3);
+        BENCH.takes("inductive acc (X : Type 0) (Q : X -> X -> Prop) : X -> Prop := { | ain : forall (x : X), "
+                + "(forall (y : X), Q y x -> acc X Q y) -> acc X Q x }.");
+        BENCH.takes("axiom m : forall (x : A), (forall (y : A), R y x -> acc A R y) -> (forall (y : A), R y x -> nat) -> nat. "
+                + "axiom x : A. axiom f : forall (y : A), R y x -> acc A R y.", 3);
+        String motive = "(fun (y : A) (p : acc A R y) => nat)";
+        String shown = "(fun (x2 : A) => fun (x3 : acc A R x2) => nat)";
+        BENCH.evaluates("rec acc Type 0 A R " + motive + " m x (ain A R x f)",
+                "m x f (fun (x0 : A) => fun (x1 : R x0 x) => rec acc Type 0 A R " + shown + " m x0 (f x0 x1))");
+        // Two CONSTRUCTORS and two PARAMETERS: each m is its own.
+        BENCH.takes("inductive tree (X Y : Type 0) : Type 0 := { | leaf : X -> tree X Y | "
+                + "node : Y -> (Y -> X -> tree X Y) -> tree X Y -> tree X Y }.");
+        BENCH.takes("axiom B : Type 0. axiom b : B. axiom l : A -> nat. axiom g : B -> A -> tree A B. "
+                + "axiom n : B -> (B -> A -> tree A B) -> tree A B -> (B -> A -> nat) -> nat -> nat.", 5);
+        BENCH.evaluates("rec tree Type 0 A B (fun (t : tree A B) => nat) l n (node A B b g (leaf A B x))",
+                "n b g (leaf A B x) (fun (x0 : B) => fun (x1 : A) => rec tree Type 0 A B (fun (x2 : tree A B) => nat) l n (g x0 x1)) (l x)");
+    }
+
+    /** The TERMS for INDICES of a hypothesis come from the ARGUMENT's type, not from the end. */
+    private static void rulesWithIndices() {
+        BENCH.renew();
+        BENCH.takes("inductive nat : Type 0 := { | O : nat | S : nat -> nat }. axiom A : Type 0. axiom x : A.", 3);
+        BENCH.takes("inductive two (X : Type 0) : nat -> X -> Type 0 := { | zero : forall (y : X), two X O y | "
+                + "more : forall (k : nat) (y z : X), two X k z -> (forall (j : nat), two X (S j) y) -> two X (S (S k)) y }.");
+        BENCH.takes("axiom C : forall (k : nat) (y : A), two A k y -> Type 0. axiom c : forall (y : A), C O y (zero A y). "
+                + "axiom v : A. axiom t : two A O x. axiom u : forall (j : nat), two A (S j) v. "
+                + "axiom d : forall (k : nat) (y z : A) (t : two A k z) (u : forall (j : nat), two A (S j) y), C k z t -> "
+                + "(forall (j : nat), C (S j) y (u j)) -> C (S (S k)) y (more A k y z t u).", 6);
+        BENCH.evaluates("rec two Type 0 A C c d (S (S O)) v (more A O v x t u)",
+                "d O v x t u (rec two Type 0 A C c d O x t) (fun (x0 : nat) => rec two Type 0 A C c d (S x0) v (u x0))");
+        BENCH.evaluates("rec two Type 0 A C c d (S (S O)) v (more A O v x (zero A x) u)",
+                "d O v x (zero A x) u (c x) (fun (x0 : nat) => rec two Type 0 A C c d (S x0) v (u x0))");
     }
 }

@@ -14,6 +14,7 @@ public final class NestEdgeTest {
         normals();
         majors();
         majorsBeginAnew();
+        majorsOfEachWhnf();
         Bench.finish(NestEdgeTest.class);
     }
 
@@ -198,5 +199,28 @@ public final class NestEdgeTest {
         BENCH.refuses("eval rec one Type 0 (fun (x : one) => one) it " + sixty + ".", 10, 0);
         BENCH.takes("eval rec one Type 0 (fun (x : one) => one -> one) (fun (y : one) => y) it " + sixty + ".");
         BENCH.takes("axiom q : Q (two " + sixty + " " + sixty + "). check q : Q (two it it).", 2);
+    }
+
+    /** Wherever a WHNF is asked, it begins with no MAJOR around it. */
+    private static void majorsOfEachWhnf() {
+        for (int deep = 59; deep <= 61; deep++) {
+            prelude();
+            BENCH.takes("def r : one -> one := rec one Type 0 (fun (x : one) => one) it. "
+                    + "def U : one -> Type 2 := rec one Type 3 (fun (x : one) => Type 2) (Type 1). "
+                    + "def V : one -> Type 1 := rec one Type 2 (fun (x : one) => Type 1) (one -> Type 0).", 3);
+            String inner = repeated("r", deep - 1, "it");
+            // SORTOF: the type of u is a SORT behind so many MAJORS.
+            BENCH.takes("axiom u : U " + inner + ".");
+            accepts(deep <= 60, "axiom w : u.");
+            // A function's type, which becomes a PI.
+            BENCH.takes("axiom v : V " + inner + ".");
+            accepts(deep <= 60, "check v it : Type 0.");
+            // CONV, on either side.
+            BENCH.takes("axiom l : Q " + repeated("r", deep, "it") + ". axiom k : Q it.", 2);
+            accepts(deep <= 60, "check l : Q it.");
+            accepts(deep <= 60, "check k : Q " + repeated("r", deep, "it") + ".");
+            // NORMAL FORM, also below PI and LAM and of what is behind a head.
+            accepts(deep <= 60, "eval fun (x : Q it) => Q " + repeated("r", deep, "it") + ".");
+        }
     }
 }

@@ -12,6 +12,7 @@ public final class ShowTest {
         writesTerms();
         outEnds();
         outIsCut();
+        manyVariables();
         Bench.finish(ShowTest.class);
     }
 
@@ -112,6 +113,31 @@ public final class ShowTest {
         written++;
         BENCH.takes("axiom w" + written + " : " + text + ".");
         BENCH.shows(BENCH.kernel().count(0) - 1, 1, text);
+    }
+
+    /** VARIABLES are told by how many are bound around them: 9, 10, 99, 100 and more. */
+    private static void manyVariables() {
+        BENCH.renew();
+        BENCH.takes("axiom g : Prop -> Prop -> Prop.");
+        String body = "x0";
+        for (int i : new int[] {1, 9, 10, 11, 99, 100, 101, 109, 110, 119, 120}) {
+            body = "g " + (body.equals("x0") ? body : "(" + body + ")") + " x" + i;
+        }
+        // Those that the body has not are written with ->.
+        StringBuilder due = new StringBuilder();
+        for (int i = 0; i < 121; i++) {
+            due.append(body.matches(".*x" + i + "\\b.*") ? "forall (x" + i + " : Prop), " : "Prop -> ");
+        }
+        BENCH.takes("axiom many : " + names(121) + body + ".");
+        BENCH.shows(1, 1, due + body);
+    }
+
+    private static String names(int number) {
+        StringBuilder names = new StringBuilder("forall (");
+        for (int i = 0; i < number; i++) {
+            names.append("x").append(i).append(' ');
+        }
+        return names.append(": Prop), ").toString();
     }
 
     private static void outEnds() {
