@@ -2304,7 +2304,7 @@ public final class FamilyKernel {
         private int split(int term, Row types) {
             int end = term;
             types.cut(0);
-            while (terms.kind(end) == PI) {
+            for (int turn = 0; turn < MOST_SIZE && terms.kind(end) == PI; turn++) {
                 types.push(terms.left(end));
                 end = terms.right(end);
             }
