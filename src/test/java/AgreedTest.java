@@ -8,8 +8,9 @@ import java.util.NoSuchElementException;
 /**
  * Runs over many declarations, right and wrong, on which a second checker, written in another
  * language and by plain recursion, gave the answers that stand in src/test/data/agreed.txt. It shares
- * this one's reading of the document: it guards the workings, not the reading. A line there begins with what it is: a new object, ? a text, = the answers of read, fault and count, " OUT,
- * ! what constant, show and showRec tell of each constant.
+ * this one's reading of the document: it guards the workings, not the reading. A line there begins with
+ * what it is: new (an object), ? a text, = the answers of read, fault and count, " OUT, ! what constant,
+ * show and showRec tell of each constant.
  */
 public final class AgreedTest {
     private static final Bench BENCH = new Bench();
